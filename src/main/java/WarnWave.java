@@ -909,7 +909,9 @@ public final class WarnWave {
             if (called[warning] == group) {
                 newWays |= 1 << BY_CALL;
             }
-            int neighbour = believingNeighbour(group, warning);
+            // Each way counts only once, so neighbours are not looked for again.
+            boolean isTold = isIn(groups[group].ways[warning], BY_NEIGHBOUR);
+            int neighbour = isTold ? NONE : believingNeighbour(group, warning);
             if (neighbour != NONE) {
                 newWays |= 1 << BY_NEIGHBOUR;
             }

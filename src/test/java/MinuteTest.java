@@ -27,6 +27,7 @@ final class MinuteTest {
         latestAdvice();
         harm();
         goneDoNothing();
+        fullLand();
         Check.end("MinuteTest");
     }
 
@@ -159,6 +160,7 @@ final class MinuteTest {
 
     private static void mastInTheNight() {
         WarnWave x = new WarnWave();
+        x.until(23);
         x.lines(0);
         x.group(5, 1, 0, false, false);
         x.group(15, 1, 0, false, false);
@@ -168,7 +170,7 @@ final class MinuteTest {
         Check.due("WAY 1: not asleep in the first minute", x.heard(0, 0, 3), 0);
         x.pass(1);
         Check.due("WAY 1: asleep, when it was sent 2 minutes ago", x.heard(0, 0, 3), MAST);
-        Check.due("WAY 1: the minute", x.heard(0, 0, 0), 2);
+        Check.due("WAY 1: the minute", x.heard(0, 0, 0), 1382);
         x.pass(5);
         Check.due("WAY 1: out of reach also later", x.heard(1, 0, 3), 0);
     }
@@ -332,6 +334,16 @@ final class MinuteTest {
         Check.due("first: nor the minute", x.heard(3, 0, 0), 602);
         Check.due("first: nor from whom", x.heard(3, 0, 2), -1);
         Check.due("first: the set grows", x.heard(3, 0, 3), SIREN + CALL + NEIGHBOUR);
+        WarnWave all = byDay();
+        all.group(0, 1, 0, false, true);
+        all.siren(1, 1);
+        all.mast(4, 1);
+        all.lines(3);
+        all.pass(2);
+        Check.alertNow(all, 1, 0, 1);
+        all.pass(1);
+        Check.due("first: all ways but neighbours at once", all.heard(0, 0, 3), SIREN + MAST + RADIO + CALL);
+        Check.due("first: the siren is the smallest", all.heard(0, 0, 1), 0);
         WarnWave y = byDay();
         y.group(0, 1, 0, false, true);
         y.group(5, 1, 0, false, false);
@@ -590,5 +602,42 @@ final class MinuteTest {
         Check.due("the gone are not called", x.many(10), 0);
         Check.due("the gone go nowhere", x.many(4), 0);
         Check.due("believers of the first", x.ofWarning(0, 8), 2);
+    }
+
+    /** As many of all as there can be. */
+    private static void fullLand() {
+        WarnWave x = byDay();
+        x.lines(3);
+        for (int g = 0; g < 8; g++) {
+            x.group(2 * g, 10 + g, g % 3, g == 5, g % 2 == 0);
+        }
+        for (int k = 0; k < 4; k++) {
+            x.siren(5 * k, k);
+            x.mast(15 - k, k);
+            x.key(k, true);
+        }
+        x.shelter(0, 20);
+        x.shelter(15, 200);
+        x.shelter(5, 50);
+        for (int cell = 8; cell < 16; cell++) {
+            x.danger(cell, 7);
+        }
+        for (int w = 0; w < 12; w++) {
+            Check.alertNow(x, 65535, w % 2, 7);
+        }
+        Check.due("full: by radio or mast", x.pass(1), 72);
+        Check.due("full: calls", x.many(10), 3);
+        Check.due("full: the latest of group 7", x.ofGroup(7, 8), 11);
+        Check.due("full: by calls, then by siren", x.pass(2), 24);
+        Check.due("full: the latest of group 5", x.ofGroup(5, 8), 11);
+        Check.due("full: in force", x.many(7), 12);
+        Check.due("full: in force in cell 15", x.inForce(15), 11);
+        Check.dueDouble("full: delay", x.meanDelay(11), (84.0 + 24.0 * 3.0) / 108.0);
+        Check.due("full: who believed the last", x.ofWarning(11, 8), 8);
+        Check.due("full: by the other calls", x.digest(), DigestByCalls.of(x));
+        Check.due("full: a fifth siren", x.sirenWould(10, 3, 5), 0);
+        x.pass(10);
+        Check.due("full: all are safe", x.many(4), 108);
+        Check.due("full: by the other calls", x.digest(), DigestByCalls.of(x));
     }
 }

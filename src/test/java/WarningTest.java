@@ -12,6 +12,7 @@ final class WarningTest {
         trustAfterCancel();
         trustEdges();
         outOfShelters();
+        eightGroups();
         Check.end("WarningTest");
     }
 
@@ -284,5 +285,25 @@ final class WarningTest {
         Check.cancelNow(y, elsewhere);
         Check.due("chapter 4: any cancel lets out who believes none", y.ofGroup(0, 5), -1);
         Check.due("chapter 4: trust is as it was", y.ofGroup(0, 3), 5);
+    }
+
+    private static void eightGroups() {
+        WarnWave x = new WarnWave();
+        x.until(10);
+        x.shelter(5, 4);
+        x.shelter(5, 1);
+        x.shelter(5, 2);
+        for (int g = 0; g < 8; g++) {
+            x.group(5, 1, g % 3, false, true);
+        }
+        Check.alertNow(x, 32, 1, 7);
+        Check.due("all believe", x.pass(1), 8);
+        Check.due("seven are safe", x.many(4), 7);
+        Check.cancelNow(x, 0);
+        Check.due("chapter 4: all come out", x.many(4), 0);
+        for (int g = 0; g < 8; g++) {
+            Check.due("chapter 4: group " + g + " trusts less", x.ofGroup(g, 3), 3);
+        }
+        Check.due("chapter 4: all room is free", x.roomIn(0) * 100 + x.roomIn(1) * 10 + x.roomIn(2), 412);
     }
 }

@@ -7,7 +7,9 @@ final class WouldTest {
         sirenWould();
         sirenWouldBeFewer();
         sirenWouldEdges();
+        trialKnowsAll();
         digest();
+        digestNumbers();
         Check.end("WouldTest");
     }
 
@@ -96,6 +98,7 @@ final class WouldTest {
         x.group(9, 80, 2, false, false);
         Check.alertNow(x, 65535, 0, 7);
         long before = x.digest();
+        Check.due("27: not in 1 minute", x.sirenWould(0, 3, 1), 0);
         Check.due("27: not in 2 minutes", x.sirenWould(0, 3, 2), 0);
         Check.due("27: its cell alone, in 3", x.sirenWould(0, 0, 3), 10);
         Check.due("27: and the neighbour by hearsay", x.sirenWould(0, 0, 4), 30);
@@ -158,6 +161,94 @@ final class WouldTest {
         Check.due("27: gone or not", gone.sirenWould(0, 0, 10), 10);
         gone.pass(5);
         Check.due("27: who is gone hears nothing", gone.sirenWould(0, 0, 10), 0);
+    }
+
+    /** What would be depends on all that was told: each time, safeIn is what then happens. */
+    private static void trialKnowsAll() {
+        WarnWave trust = walker();
+        trust.trust(0, 3);
+        Check.due("26: with too little trust", trust.safeIn(0, 60), -1);
+        WarnWave power = walker();
+        power.siren(0, 0);
+        power.power(0, false);
+        Check.due("26: without power", power.safeIn(1, 60), -1);
+        WarnWave mast = walker();
+        mast.mast(0, 0);
+        Check.due("26: by the mast", mast.safeIn(1, 60), 4);
+        WarnWave danger = walker();
+        danger.siren(0, 0);
+        danger.danger(0, 0);
+        danger.danger(4, 0);
+        Check.due("26: harmed, but safe", danger.safeIn(1, 60), 6);
+        danger.danger(5, 0);
+        danger.danger(6, 0);
+        Check.due("26: gone before", danger.safeIn(1, 60), -1);
+        WarnWave lines = walker();
+        lines.lines(1);
+        Check.due("26: called behind group 0", lines.safeIn(1, 60), 5);
+        WarnWave night = new WarnWave();
+        night.until(23);
+        night.lines(0);
+        night.group(0, 9, 0, false, false);
+        night.shelter(0, 9);
+        night.mast(0, 0);
+        Check.alertNow(night, 1, 1, 1);
+        Check.due("26: the mast wakes it in the second minute", night.safeIn(0, 60), 2);
+        WarnWave stay = walker();
+        stay.pass(1);
+        Check.updateNow(stay, 0, 65535, 0, 7);
+        Check.due("26: it was told to stay", stay.safeIn(0, 60), -1);
+    }
+
+    /** Groups on the way to one shelter, and more and more of them by a siren, so that each number counts. */
+    private static void digestNumbers() {
+        WarnWave x = new WarnWave();
+        x.until(10);
+        x.lines(0);
+        x.shelter(15, 200);
+        x.group(0, 5, 2, true, true);
+        x.trust(0, 4);
+        Check.alertNow(x, 1, 1, 4);
+        Check.due("28: safe in 7", x.safeIn(0, 60), 7);
+        dueDigest(x);
+        WarnWave night = new WarnWave();
+        night.until(5);
+        night.pass(57);
+        night.lines(0);
+        night.shelter(15, 200);
+        night.group(0, 5, 2, true, true);
+        night.group(1, 5, 1, true, true);
+        Check.alertNow(night, 3, 1, 6);
+        Check.due("28: safe in 9", night.safeIn(0, 60), 9);
+        dueDigest(night);
+        WarnWave nine = new WarnWave();
+        nine.until(5);
+        nine.pass(56);
+        nine.lines(0);
+        nine.shelter(15, 200);
+        nine.group(0, 5, 2, true, true);
+        Check.alertNow(nine, 1, 1, 4);
+        Check.due("28: safe in 10", nine.safeIn(0, 60), 10);
+        dueDigest(nine);
+        WarnWave wave = new WarnWave();
+        wave.until(10);
+        wave.lines(0);
+        int[] path = {6, 7, 11, 15, 14};
+        for (int g = 0; g < path.length; g++) {
+            wave.group(path[g], 10 + g, 0, g > 0, false);
+        }
+        wave.group(13, 50, 1, false, false);
+        wave.group(4, 70, 2, false, false);
+        Check.alertNow(wave, 65535, 0, 7);
+        for (int minutes = 3; minutes <= 7; minutes++) {
+            Check.due("28: more in each minute", wave.sirenWould(5, 1, minutes)
+                    < wave.sirenWould(5, 1, minutes + 1), minutes < 7);
+        }
+        dueDigest(wave);
+    }
+
+    private static void dueDigest(WarnWave x) {
+        Check.due("28: by the other calls", x.digest(), DigestByCalls.of(x));
     }
 
     private static void digest() {
