@@ -39,6 +39,18 @@ final class Check {
         report(x.digest() == before, what + " changes nothing", x.digest(), before);
     }
 
+    /** Two lands are alike, also in what no question shows. Both are used up by it. */
+    static void dueAlike(String what, WarnWave got, WarnWave want) {
+        due(what + ": digest", got.digest(), want.digest());
+        due(what + ": lines", got.lines(0), want.lines(0));
+        for (int cell = 0; cell < 16; cell++) {
+            String where = what + ": cell " + cell;
+            due(where + ", danger from", got.danger(cell, -1), want.danger(cell, -1));
+            due(where + ", with power", got.power(cell, false), want.power(cell, false));
+            due(where + ", sirens and masts", got.power(cell, true), want.power(cell, true));
+        }
+    }
+
     private static void report(boolean isRight, String what, Object got, Object want) {
         checked++;
         if (!isRight) {
@@ -52,6 +64,23 @@ final class Check {
         if (wrong != 0) {
             System.exit(1);
         }
+    }
+
+    /** A land at 10:00 of the first day, with no line for calls, so that other ways can be told apart. */
+    static WarnWave byDay() {
+        WarnWave x = new WarnWave();
+        x.until(10);
+        x.lines(0);
+        return x;
+    }
+
+    /** A land at 9960, 22:00 of the last day: 39 minutes are left. */
+    static WarnWave inTheLastHour() {
+        WarnWave x = new WarnWave();
+        for (int day = 0; day < 7; day++) {
+            x.until(22);
+        }
+        return x;
     }
 
     /** Drafts an ALERT, lets OFFICERS 0 and 1 approve it, and sends it. */

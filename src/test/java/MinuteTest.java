@@ -31,14 +31,6 @@ final class MinuteTest {
         Check.end("MinuteTest");
     }
 
-    /** An object at 10:00 of the first day, with no line for calls, so that other ways can be told apart. */
-    private static WarnWave byDay() {
-        WarnWave x = new WarnWave();
-        x.until(10);
-        x.lines(0);
-        return x;
-    }
-
     private static void pass() {
         WarnWave x = new WarnWave();
         Check.due("16: nobody believes", x.pass(60), 0);
@@ -57,7 +49,7 @@ final class MinuteTest {
         x.pass(39);
         Check.due("16: the last minute", x.many(0), 9999);
         Check.dueThrows("16: behind the last", x, Check.STATE, () -> x.pass(1));
-        WarnWave y = byDay();
+        WarnWave y = Check.byDay();
         y.group(0, 1, 0, false, true);
         y.group(0, 1, 1, false, true);
         Check.alertNow(y, 1, 0, 7);
@@ -96,7 +88,7 @@ final class MinuteTest {
     }
 
     private static void siren() {
-        WarnWave x = byDay();
+        WarnWave x = Check.byDay();
         x.group(5, 1, 0, false, false);
         x.group(5, 1, 0, true, false);
         x.group(8, 1, 2, false, false);
@@ -116,7 +108,7 @@ final class MinuteTest {
         Check.due("WAY 0: whatever its tongue", x.heard(2, 0, 3), SIREN);
         Check.due("WAY 0: not outside the area", x.heard(3, 0, 3), 0);
         Check.due("WAY 0: not farther than its reach", x.heard(4, 0, 3), 0);
-        WarnWave y = byDay();
+        WarnWave y = Check.byDay();
         y.group(5, 1, 0, false, false);
         y.siren(5, 0);
         y.power(5, false);
@@ -136,7 +128,7 @@ final class MinuteTest {
     }
 
     private static void mast() {
-        WarnWave x = byDay();
+        WarnWave x = Check.byDay();
         x.group(5, 1, 0, true, false);
         x.group(8, 1, 2, false, false);
         x.group(15, 1, 0, false, false);
@@ -176,7 +168,7 @@ final class MinuteTest {
     }
 
     private static void radio() {
-        WarnWave x = byDay();
+        WarnWave x = Check.byDay();
         x.group(0, 1, 0, true, true);
         x.group(3, 1, 0, false, false);
         x.group(6, 1, 1, false, true);
@@ -244,7 +236,7 @@ final class MinuteTest {
     }
 
     private static void neighbours() {
-        WarnWave x = byDay();
+        WarnWave x = Check.byDay();
         x.group(5, 1, 0, false, true);
         x.group(5, 1, 0, true, false);
         x.group(9, 1, 0, false, false);
@@ -266,7 +258,7 @@ final class MinuteTest {
         Check.due("WAY 4: from whom", x.heard(3, 0, 2), 2);
         x.pass(9);
         Check.due("WAY 4: column 3 is too far from column 2 of the next row", x.heard(5, 0, 3), 0);
-        WarnWave y = byDay();
+        WarnWave y = Check.byDay();
         y.group(3, 1, 0, false, true);
         y.group(4, 1, 0, false, false);
         Check.alertNow(y, 8, 0, 1);
@@ -284,7 +276,7 @@ final class MinuteTest {
         x.pass(4);
         Check.due("WAY 4: asleep, and of no tongue that it has", x.heard(1, 0, 3), NEIGHBOUR);
         Check.due("WAY 4: from", x.heard(1, 0, 2), 0);
-        WarnWave y = byDay();
+        WarnWave y = Check.byDay();
         y.group(0, 1, 0, false, true);
         y.group(1, 1, 0, false, false);
         y.danger(0, 1);
@@ -306,7 +298,7 @@ final class MinuteTest {
     }
 
     private static void firstHeard() {
-        WarnWave x = byDay();
+        WarnWave x = Check.byDay();
         x.lines(1);
         x.group(0, 1, 0, false, true);
         x.group(1, 1, 0, false, false);
@@ -334,7 +326,7 @@ final class MinuteTest {
         Check.due("first: nor the minute", x.heard(3, 0, 0), 602);
         Check.due("first: nor from whom", x.heard(3, 0, 2), -1);
         Check.due("first: the set grows", x.heard(3, 0, 3), SIREN + CALL + NEIGHBOUR);
-        WarnWave all = byDay();
+        WarnWave all = Check.byDay();
         all.group(0, 1, 0, false, true);
         all.siren(1, 1);
         all.mast(4, 1);
@@ -344,7 +336,7 @@ final class MinuteTest {
         all.pass(1);
         Check.due("first: all ways but neighbours at once", all.heard(0, 0, 3), SIREN + MAST + RADIO + CALL);
         Check.due("first: the siren is the smallest", all.heard(0, 0, 1), 0);
-        WarnWave y = byDay();
+        WarnWave y = Check.byDay();
         y.group(0, 1, 0, false, true);
         y.group(5, 1, 0, false, false);
         y.group(2, 1, 0, false, true);
@@ -352,7 +344,7 @@ final class MinuteTest {
         Check.alertNow(y, 5, 0, 1);
         y.pass(2);
         Check.due("first: the smallest of several", y.heard(3, 0, 2), 0);
-        WarnWave z = byDay();
+        WarnWave z = Check.byDay();
         z.group(0, 1, 0, false, true);
         z.group(1, 1, 0, false, false);
         z.siren(1, 0);
@@ -365,7 +357,7 @@ final class MinuteTest {
     }
 
     private static void believing() {
-        WarnWave x = byDay();
+        WarnWave x = Check.byDay();
         x.group(0, 1, 0, false, true);
         x.trust(0, 0);
         Check.alertNow(x, 1, 0, 1);
@@ -375,7 +367,7 @@ final class MinuteTest {
         Check.due("believing: by two ways", x.pass(1), 1);
         Check.due("believing: the minute", x.heard(0, 0, 4), 604);
         Check.due("believing: first heard", x.heard(0, 0, 0), 601);
-        WarnWave y = byDay();
+        WarnWave y = Check.byDay();
         y.group(0, 1, 0, false, true);
         y.trust(0, 3);
         Check.alertNow(y, 1, 0, 1);
@@ -385,7 +377,7 @@ final class MinuteTest {
         y.trust(0, 0);
         y.pass(1);
         Check.due("believing: it stays so", y.ofGroup(0, 8), 0);
-        WarnWave z = byDay();
+        WarnWave z = Check.byDay();
         z.group(0, 1, 0, false, true);
         z.trust(0, 3);
         Check.alertNow(z, 1, 0, 1);
@@ -397,7 +389,7 @@ final class MinuteTest {
 
     private static void waysNeeded() {
         for (int trust = 0; trust <= 9; trust++) {
-            WarnWave x = byDay();
+            WarnWave x = Check.byDay();
             x.group(0, 1, 0, false, true);
             x.trust(0, trust);
             Check.alertNow(x, 1, 0, 1);
@@ -459,7 +451,7 @@ final class MinuteTest {
     }
 
     private static void going() {
-        WarnWave x = byDay();
+        WarnWave x = Check.byDay();
         x.group(0, 9, 0, false, true);
         x.shelter(10, 9);
         Check.alertNow(x, 1, 1, 1);
@@ -468,19 +460,19 @@ final class MinuteTest {
         x.pass(5);
         Check.due("it stays there", x.ofGroup(0, 5), 0);
         Check.due("room is less once", x.roomIn(0), 0);
-        WarnWave y = byDay();
+        WarnWave y = Check.byDay();
         y.group(15, 9, 0, false, true);
         y.shelter(1, 200);
         Check.alertNow(y, 32768, 1, 1);
         duePath(y, 11, 7, 3, 2, 1);
         Check.due("room is less", y.roomIn(0), 191);
-        WarnWave stay = byDay();
+        WarnWave stay = Check.byDay();
         stay.group(0, 9, 0, false, true);
         stay.shelter(0, 200);
         Check.alertNow(stay, 1, 0, 1);
         stay.pass(3);
         Check.due("with STAY it stays", stay.ofGroup(0, 5), -1);
-        WarnWave no = byDay();
+        WarnWave no = Check.byDay();
         no.group(0, 9, 0, false, true);
         no.shelter(1, 200);
         Check.alertNow(no, 2, 1, 1);
@@ -489,7 +481,7 @@ final class MinuteTest {
     }
 
     private static void nearestShelter() {
-        WarnWave x = byDay();
+        WarnWave x = Check.byDay();
         x.group(0, 9, 0, false, true);
         x.shelter(15, 200);
         x.shelter(8, 200);
@@ -499,7 +491,7 @@ final class MinuteTest {
         Check.due("of several the smallest number", x.ofGroup(0, 0), 4);
         x.pass(2);
         Check.due("the nearest", x.ofGroup(0, 5), 1);
-        WarnWave y = byDay();
+        WarnWave y = Check.byDay();
         y.group(0, 9, 0, false, true);
         y.shelter(0, 8);
         y.shelter(1, 9);
@@ -511,7 +503,7 @@ final class MinuteTest {
     }
 
     private static void roomRunsOut() {
-        WarnWave x = byDay();
+        WarnWave x = Check.byDay();
         x.group(0, 9, 0, false, true);
         x.group(0, 9, 1, false, true);
         x.shelter(0, 17);
@@ -523,7 +515,7 @@ final class MinuteTest {
         x.shelter(4, 8);
         x.pass(1);
         Check.due("it goes on", x.ofGroup(1, 0), 8);
-        WarnWave y = byDay();
+        WarnWave y = Check.byDay();
         y.group(0, 9, 0, false, true);
         y.shelter(3, 8);
         Check.alertNow(y, 1, 1, 7);
@@ -532,7 +524,7 @@ final class MinuteTest {
     }
 
     private static void latestAdvice() {
-        WarnWave x = byDay();
+        WarnWave x = Check.byDay();
         x.group(0, 9, 0, false, true);
         x.shelter(3, 200);
         Check.alertNow(x, 1, 1, 1);
@@ -553,7 +545,7 @@ final class MinuteTest {
     }
 
     private static void harm() {
-        WarnWave x = byDay();
+        WarnWave x = Check.byDay();
         x.group(6, 10, 0, false, false);
         x.group(5, 20, 0, false, false);
         x.danger(6, 2);
@@ -573,7 +565,7 @@ final class MinuteTest {
         x.pass(3);
         Check.due("no more harm than 5", x.ofGroup(0, 6), 5);
         Check.due("the other has none", x.ofGroup(1, 6), 0);
-        WarnWave y = byDay();
+        WarnWave y = Check.byDay();
         y.group(1, 10, 0, false, true);
         y.shelter(0, 10);
         y.danger(0, 0);
@@ -586,7 +578,7 @@ final class MinuteTest {
     }
 
     private static void goneDoNothing() {
-        WarnWave x = byDay();
+        WarnWave x = Check.byDay();
         x.group(6, 10, 0, false, true);
         x.group(6, 10, 0, false, false);
         x.danger(6, 0);
@@ -606,7 +598,7 @@ final class MinuteTest {
 
     /** As many of all as there can be. */
     private static void fullLand() {
-        WarnWave x = byDay();
+        WarnWave x = Check.byDay();
         x.lines(3);
         for (int g = 0; g < 8; g++) {
             x.group(2 * g, 10 + g, g % 3, g == 5, g % 2 == 0);
